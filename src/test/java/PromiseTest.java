@@ -113,6 +113,9 @@ public final class PromiseTest {
         Check.answers("2: still 200", 200, () -> x.count(0));
         Check.answers("2: 199 there", 199, () -> x.count(1));
         Check.answers("2: 199 bytes", 199, () -> x.size(MIN, MAX));
+        Check.answers("19: none of 200", -1, x::verify);
+        x.poke(199, 0, 1);
+        Check.answers("19: the last of 200", 199, x::verify);
         for (int k = 0; k < 200; k++) {
             int number = k;
             if (number != 7) {
