@@ -4,6 +4,7 @@ import java.util.function.IntSupplier;
 final class Check {
     private static int wrong = 0;
     private static int looked = 0;
+    private static String sentence = "";
 
     private Check() {
     }
@@ -12,6 +13,11 @@ final class Check {
     static final Class<? extends RuntimeException> RANGE = IndexOutOfBoundsException.class;
     static final Class<? extends RuntimeException> STATE = IllegalStateException.class;
     static final Class<? extends RuntimeException> NO_ROOM = UnsupportedOperationException.class;
+
+    /** The words of the document that the checks from here on are about; they stand in front of what is not as due. */
+    static void sentence(String words) {
+        sentence = "[" + words + "] ";
+    }
 
     static void due(String what, long want, long got) {
         looked++;
@@ -57,7 +63,7 @@ final class Check {
     static void fail(String text) {
         wrong++;
         if (wrong <= 50) {
-            System.out.println(text);
+            System.out.println(sentence + text);
         }
     }
 

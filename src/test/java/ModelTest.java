@@ -6,6 +6,7 @@ import java.util.SplittableRandom;
 public final class ModelTest {
     private static final int RUNS = 1000;
     private static final int CALLS = 512;
+    private static final int[] FILLING = {0, 1, 11, 14};
     private static final int[] EDGES = {Integer.MIN_VALUE, -9999999, -2, -1, 0, 1, 9999999, 10000000,
         Integer.MAX_VALUE};
 
@@ -40,6 +41,10 @@ public final class ModelTest {
             weights[k] = 1 + random.nextInt(4) * random.nextInt(4);
         }
         weights[0] += random.nextInt(30);
+        // In some runs one call comes so often that slots, marks, certificates or rows get full.
+        if (random.nextInt(3) == 0) {
+            weights[FILLING[random.nextInt(FILLING.length)]] += 60;
+        }
         return weights;
     }
 
