@@ -54,7 +54,32 @@ public final class FaceTest {
         Check.due("constructors", 1, constructors.length);
         Check.due("its parameters", 0, constructors[0].getParameterCount());
         Check.due("it is public", 1, Modifier.isPublic(constructors[0].getModifiers()) ? 1 : 0);
+        classesInsideAreHidden();
+        noHiddenMethodBearsAPublicName();
         Check.finish();
+    }
+
+    private static void classesInsideAreHidden() {
+        for (Class<?> c : RecordTimes.class.getDeclaredClasses()) {
+            int modifiers = c.getModifiers();
+            Check.due(c + " is static", 1, Modifier.isStatic(modifiers) ? 1 : 0);
+            Check.due(c + " is not seen", 0, Modifier.isPublic(modifiers) || Modifier.isProtected(modifiers) ? 1 : 0);
+        }
+    }
+
+    private static void noHiddenMethodBearsAPublicName() {
+        TreeSet<String> names = new TreeSet<>();
+        for (String method : FACE) {
+            names.add(method.substring(method.indexOf(' ') + 1, method.indexOf('(')));
+        }
+        List<Method> methods = new ArrayList<>(List.of(RecordTimes.class.getDeclaredMethods()));
+        for (Class<?> c : RecordTimes.class.getDeclaredClasses()) {
+            methods.addAll(List.of(c.getDeclaredMethods()));
+        }
+        for (Method m : methods) {
+            boolean ofTheFace = m.getDeclaringClass() == RecordTimes.class && Modifier.isPublic(m.getModifiers());
+            Check.due(m + " has a name of its own", 0, !ofTheFace && names.contains(m.getName()) ? 1 : 0);
+        }
     }
 
     private static String textOf(Method m) {

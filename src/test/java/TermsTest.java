@@ -1,4 +1,4 @@
-/** Each sentence of the document's "Terms" that names a boundary has a test of its own here. */
+/** Each sentence of the document's "Terms" has a test of its own, or several; RefusalTest and MemoryTest have its first and last. */
 public final class TermsTest {
     private static final int MIN = Integer.MIN_VALUE;
     private static final int MAX = Integer.MAX_VALUE;
@@ -10,6 +10,8 @@ public final class TermsTest {
         sourcesAreTen();
         slotsAreAtMost200();
         droppedSlotsMakeNoRoom();
+        slotsAreOfASource();
+        slotsBeginAtATimeOfTheClock();
         bytesAreOneToEight();
         bytesAreOneASecond();
         unitsAreAHundred();
@@ -18,6 +20,7 @@ public final class TermsTest {
         sumBeginsWithZero();
         sumTakesBytesTo255();
         sumTurnsAndWrapsIn32Bits();
+        markTellsTheTrueTime();
         offsetIsOfTheFirstMark();
         offsetIsZeroWithoutAMark();
         trueTimeMayBeBelowZero();
@@ -127,6 +130,41 @@ public final class TermsTest {
         Check.answers("no bytes", 0, () -> x.size(MIN, MAX));
         Check.answers("their sum", 0, () -> x.export(MIN, MAX));
         Check.answers("none is bad", -1, x::verify);
+    }
+
+    private static void slotsAreOfASource() {
+        Check.sentence("SLOTS .. are of a source");
+        Counted x = new Counted();
+        for (int source = 0; source < 10; source++) {
+            x.slot(source, 1000, 1, source, 0, 0);
+        }
+        for (int source = 9; source >= 0; source--) {
+            int s = source;
+            x.mark(s, 0, 10 * s + 1);
+            Check.answers("its own mark moves it", 1001 + 10 * s, () -> x.time(s));
+            for (int other = 0; other < s; other++) {
+                int o = other;
+                Check.answers("a mark of " + s + " does not move a slot of " + o, 1000, () -> x.time(o));
+            }
+        }
+        x.slot(3, 2000, 1, 1, 0, 0);
+        Check.answers("one made behind the mark is of the source too", 2031, () -> x.time(10));
+    }
+
+    private static void slotsBeginAtATimeOfTheClock() {
+        Check.sentence("SLOTS .. begin at a time of its CLOCK");
+        Counted x = new Counted();
+        x.mark(0, 0, 500);
+        Check.answers("the clock shows 0, truly it is 500", 0, () -> x.slot(0, 0, 2, 0x0102L, 0, 0));
+        Check.answers("begins truly at 500", 500, () -> x.time(0));
+        Check.answers("not at 0", 0, () -> x.part(0, 0, 500));
+        x.mark(1, LAST, 0);
+        Check.answers("the range is the clock's, not the true times'", 1, () -> x.slot(1, 5, 1, 1, 0, 0));
+        Check.answers("truly far below 0", 5 - LAST, () -> x.time(1));
+        x.mark(2, 0, LAST);
+        Check.answers("nor above", 2, () -> x.slot(2, LAST, 1, 1, 0, 0));
+        Check.refuses("a true time that no clock shows", Check.RANGE, () -> x.slot(1, 5 - LAST, 1, 1, 0, 0));
+        Check.refuses("nor above", Check.RANGE, () -> x.slot(2, 2 * LAST, 1, 1, 0, 0));
     }
 
     private static void bytesAreOneToEight() {
@@ -258,6 +296,29 @@ public final class TermsTest {
         Check.answers("eight bytes", -1672177157, () -> x.sum(2));
         x.slot(0, 0, 8, 1L << 56, 0, 0);
         Check.answers("eight times round", 1577985351, () -> x.sum(3));
+    }
+
+    private static void markTellsTheTrueTime() {
+        Check.sentence("A MARK tells that at a time of a source's clock it is another one truly");
+        Counted x = new Counted();
+        x.slot(6, 400, 8, 0x0102030405060708L, 0, 0);
+        x.mark(6, 403, 73);
+        Check.answers("the byte of that clock's time is truly at 73", Check.sumOf(4), () -> x.part(0, 73, 74));
+        Check.answers("so are the others, as many seconds apart", 70, () -> x.time(0));
+        x.slot(6, 403, 1, 9, 0, 0);
+        Check.answers("a slot that begins at that time", 73, () -> x.time(1));
+        x.slot(6, 402, 1, 9, 0, 0);
+        x.slot(6, 0, 1, 9, 0, 0);
+        Check.answers("one before the mark", 72, () -> x.time(2));
+        Check.answers("the first time of the clock", -330, () -> x.time(3));
+        x.slot(6, LAST, 1, 9, 0, 0);
+        Check.answers("the last time of the clock", LAST - 330, () -> x.time(4));
+        x.mark(7, 73, 403);
+        x.slot(7, 73, 1, 9, 0, 0);
+        Check.answers("a clock that is slow", 403, () -> x.time(5));
+        x.mark(8, 50, 50);
+        x.slot(8, 51, 1, 9, 0, 0);
+        Check.answers("a clock that is right", 51, () -> x.time(6));
     }
 
     private static void offsetIsOfTheFirstMark() {
