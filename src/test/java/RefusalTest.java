@@ -28,7 +28,7 @@ public final class RefusalTest {
     }
 
     /** Some of all: slots of four incidents, one bad, one dropped, one under a hold; marks, a contradiction, rights, rows. */
-    private static void someOfAll(Counted x) {
+    static void someOfAll(Counted x) {
         x.slot(0, 100, 3, 0x010203L, 5, 0);
         x.slot(9, 200, 8, 0x1112131415161718L, 99, 49);
         x.slot(3, 50, 2, 0xA1A2L, 0, 7);

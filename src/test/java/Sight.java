@@ -33,7 +33,7 @@ final class Sight {
         for (int what = 0; what <= 2; what++) {
             int w = what;
             for (int i : new int[] {0, 1, ever - 201, ever - 200, ever - 199, ever - 1, ever}) {
-                ask("row " + i, () -> x.row(i, w));
+                ask("row " + i + " " + w, () -> x.row(i, w));
             }
         }
     }
@@ -50,7 +50,7 @@ final class Sight {
         each(0, Math.min(marks, 12), "contradiction", k -> x.contradiction(k));
         for (int what = 0; what <= 2; what++) {
             int w = what;
-            each(0, Math.min(certificates, 5), "certificate", k -> x.certificate(k, w));
+            each(0, Math.min(certificates, 5), "certificate " + w + " of", k -> x.certificate(k, w));
         }
         int some = Math.min(slots, 12);
         each(0, some, "time", k -> x.time(k));
@@ -69,7 +69,7 @@ final class Sight {
     private void lookAtRights(int slots) {
         for (int number = 0; number < slots; number++) {
             int n = number;
-            each(0, 19, "listen to " + n, k -> x.listen(k, n));
+            each(0, 19, "listen to " + n + " by", k -> x.listen(k, n));
         }
     }
 

@@ -33,6 +33,7 @@ public final class TermsTest {
         lineOfTheSameSourceIsByNumbers();
         lineHasAllThatAreThere();
         lineOfManyIsInOrder();
+        lineOfManyMovesWithMarks();
         spanIsFromOrLater();
         spanIsBeforeTo();
         spanMayBeEmptyOrTurnedRound();
@@ -475,15 +476,23 @@ public final class TermsTest {
         lineIs(x, 3, 0, 1, 2);
     }
 
+    /** Whatever else could order them (bytes, how many, units, incidents) goes down where the numbers go up. */
     private static void lineOfTheSameSourceIsByNumbers() {
         Check.sentence("then by numbers");
         Counted x = new Counted();
-        for (int k = 0; k < 11; k++) {
-            x.slot(4, 70, 1 + k % 8, k, k, k);
+        for (int k = 0; k < 8; k++) {
+            x.slot(4, 70, 8 - k, 90 - k, 90 - k, 40 - k);
+        }
+        for (int k = 8; k < 11; k++) {
+            x.slot(4, 70, k - 7, k, k, k);
         }
         lineIs(x, 0, 1, 2, 3, 4, 5, 6, 7, 8, 9, 10);
         x.mark(4, 70, 0);
         lineIs(x, 0, 1, 2, 3, 4, 5, 6, 7, 8, 9, 10);
+        x.drop(0);
+        x.drop(5);
+        x.slot(4, 70, 1, 0, 0, 0);
+        lineIs(x, 1, 2, 3, 4, 6, 7, 8, 9, 10, 11);
     }
 
     private static void lineHasAllThatAreThere() {
@@ -519,6 +528,27 @@ public final class TermsTest {
             Check.answers("place " + k, 199 - k, () -> x.find(MIN, MAX, -1, -1, place));
         }
         Check.answers("behind its end", -1, () -> x.find(MIN, MAX, -1, -1, 200));
+    }
+
+    /** All begin at the same time of ten clocks: as marks come, the line is by offsets, then by sources, then by numbers. */
+    private static void lineOfManyMovesWithMarks() {
+        Check.sentence("THE LINE has all slots by true times: 200 of them, behind marks of all sources");
+        Counted x = new Counted();
+        for (int k = 0; k < 200; k++) {
+            x.slot(k % 10, 5000, 1, 1, 0, 0);
+        }
+        for (int k = 0; k < 20; k++) {
+            int place = k;
+            Check.answers("without a mark, place " + k, 10 * k, () -> x.find(MIN, MAX, -1, -1, place));
+        }
+        for (int source = 0; source < 10; source++) {
+            x.mark(source, 100, 200 - source / 2);
+        }
+        int[] sources = {8, 9, 6, 7, 4, 5, 2, 3, 0, 1};
+        for (int k = 0; k < 200; k++) {
+            int place = k;
+            Check.answers("place " + k, sources[k / 20] + 10 * (k % 20), () -> x.find(MIN, MAX, -1, -1, place));
+        }
     }
 
     private static Counted oneOfFourBytes() {
